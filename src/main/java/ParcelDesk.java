@@ -1,8 +1,8 @@
 /**
- * A parcel desk: a scale that drifts, is zeroed, tracks its zero, tares and waits until it is steady;
- * parcels with real and dimensional weights, of which the greater one counts; bands of prices by
- * zones, rules with conditions as texts; charges with reasons, disputes that are accepted or
- * rejected, and what would make a parcel cheaper.
+ * A parcel desk: a scale that drifts, is zeroed, tracks its zero, tares and waits until it is
+ * steady; parcels with real and dimensional weights, of which the greater one counts; bands of
+ * prices by zones, rules with conditions as texts; charges with reasons, disputes that are accepted
+ * or rejected, and what would make a parcel cheaper.
  */
 public final class ParcelDesk {
     public static final int BAD = -1000001;
@@ -35,6 +35,7 @@ public final class ParcelDesk {
     private static final int MOST_TICKS = 100;
     private static final int HIGHEST_PRICE = 100000;
     private static final int HIGHEST_EXTRA = 10000;
+    private static final int EXTRA_WEIGHT = 1000;
     private static final int HIGHEST_CHARGE = 1000000000;
     private static final int TEXT_ERROR = -100;
 
@@ -87,6 +88,9 @@ public final class ParcelDesk {
     private static final String LETTERS = "wrvglz";
     private static final int LETTER_W = 0;
     private static final int LETTER_R = 1;
+    private static final int LETTER_V = 2;
+    private static final int LETTER_G = 3;
+    private static final int LETTER_L = 4;
     private static final String RELATIONS = "<=>";
     private static final int RELATION_COUNT = 3;
     private static final int NUMBERS = 100000;
@@ -100,7 +104,6 @@ public final class ParcelDesk {
     private final int[] buffer = new int[TEXT_ROOM];
     private int typed;
     private final RuleReader reader = new RuleReader();
-    private final Pricer pricer = new Pricer(now.scale, now.tariff);
     /** One row, used again for every charge that is worked out only to be told. */
     private final Table trial = new Table(1, PARCEL_WIDTH);
 
@@ -186,43 +189,43 @@ public final class ParcelDesk {
         if (!isZone(zone) || !isWithin(limit, 1, HEAVIEST) || !isWithin(price, 0, HIGHEST_PRICE)) {
             return BAD;
         }
-        Tariff tariff = now.tariff;
-        int index = tariff.bandFor(zone, limit);
-        boolean isNew = !tariff.hasBand(zone, index) || tariff.limitOf(zone, index) != limit;
-        if (isNew && tariff.bandsOf(zone) >= BANDS_OF_ZONE) {
+        Bands bands = now.bands;
+        int index = bands.bandFor(zone, limit);
+        boolean isNew = !bands.hasBand(zone, index) || bands.limitOf(zone, index) != limit;
+        if (isNew && bands.bandsOf(zone) >= BANDS_OF_ZONE) {
             return FULL;
         }
         remember();
         if (isNew) {
-            tariff.openBand(zone, index);
+            bands.openBand(zone, index);
         }
-        tariff.putBand(zone, index, limit, price);
+        bands.putBand(zone, index, limit, price);
         return index;
     }
 
     public int unband(int zone, int index) {
-        if (!now.tariff.hasBand(zone, index)) {
+        if (!now.bands.hasBand(zone, index)) {
             return BAD;
         }
         remember();
-        now.tariff.closeBand(zone, index);
-        return now.tariff.bandsOf(zone);
+        now.bands.closeBand(zone, index);
+        return now.bands.bandsOf(zone);
     }
 
     public int bandAt(int zone, int index, int what) {
-        if (!now.tariff.hasBand(zone, index) || !isWithin(what, 0, 1)) {
+        if (!now.bands.hasBand(zone, index) || !isWithin(what, 0, 1)) {
             return BAD;
         }
-        return what == 0 ? now.tariff.limitOf(zone, index) : now.tariff.priceOf(zone, index);
+        return what == 0 ? now.bands.limitOf(zone, index) : now.bands.priceOf(zone, index);
     }
 
     public int setExtra(int zone, int extra) {
         if (!isZone(zone) || !isWithin(extra, 0, HIGHEST_EXTRA)) {
             return BAD;
         }
-        int previous = now.tariff.extraOf(zone);
+        int previous = now.bands.extraOf(zone);
         remember();
-        now.tariff.putExtra(zone, extra);
+        now.bands.putExtra(zone, extra);
         return previous;
     }
 
@@ -249,26 +252,26 @@ public final class ParcelDesk {
         if (stop < typed || !reader.isComplete()) {
             return TEXT_ERROR - stop;
         }
-        if (now.tariff.rules.count >= RULE_ROOM) {
+        if (now.rules.count() >= RULE_ROOM) {
             return FULL;
         }
         remember();
-        now.tariff.addRule(reader);
+        now.rules.addRule(reader);
         typed = 0;
-        return now.tariff.rules.count;
+        return now.rules.count();
     }
 
     public int unrule() {
-        if (now.tariff.rules.count <= 0) {
+        if (now.rules.count() <= 0) {
             return STATE;
         }
         remember();
-        now.tariff.rules.count--;
-        return now.tariff.rules.count;
+        now.rules.dropRule();
+        return now.rules.count();
     }
 
     public int rules() {
-        return now.tariff.rules.count;
+        return now.rules.count();
     }
 
     // ---- parcels
@@ -287,7 +290,7 @@ public final class ParcelDesk {
         remember();
         int number = now.parcels.addRow();
         describe(now.parcels, number, scale.netWeight(), a, b, c, zone);
-        pricer.price(now.parcels, number);
+        now.price(now.parcels, number);
         return number;
     }
 
@@ -408,7 +411,11 @@ public final class ParcelDesk {
         trial.copyRow(0, now.parcels, parcel);
         int real = trial.cell(0, REAL);
         int charge = trialCharge();
-        for (int weight = real - 1; weight >= 1; weight--) {
+        for (int steps = 0; steps < HEAVIEST; steps++) {
+            int weight = now.nextLower(trial, 0);
+            if (weight < 1) {
+                return NONE;
+            }
             trial.put(0, REAL, weight);
             if (trialCharge() < charge) {
                 return real - weight;
@@ -491,13 +498,13 @@ public final class ParcelDesk {
     private long printBands(long start) {
         long print = start;
         for (int zone = 0; zone < ZONES; zone++) {
-            int bands = now.tariff.bandsOf(zone);
+            int bands = now.bands.bandsOf(zone);
             print = 31 * print + bands;
             for (int i = 0; i < bands; i++) {
                 print = 31 * print + bandAt(zone, i, 0);
                 print = 31 * print + bandAt(zone, i, 1);
             }
-            print = 31 * print + now.tariff.extraOf(zone);
+            print = 31 * print + now.bands.extraOf(zone);
         }
         return print;
     }
@@ -549,12 +556,12 @@ public final class ParcelDesk {
     }
 
     private int trialCharge() {
-        pricer.price(trial, 0);
+        now.price(trial, 0);
         return trial.cell(0, CHARGE);
     }
 
     private boolean hasBands(int zone) {
-        return now.tariff.bandsOf(zone) > 0;
+        return now.bands.bandsOf(zone) > 0;
     }
 
     private int openNote(int parcel) {
@@ -571,7 +578,7 @@ public final class ParcelDesk {
         now.claims.addRow();
         now.claims.copyRow(number, now.parcels, parcel);
         now.claims.put(number, what, value);
-        pricer.price(now.claims, number);
+        now.price(now.claims, number);
         now.notes.put(number, ABOUT, parcel);
         now.notes.put(number, WHICH, what);
         now.notes.put(number, CLAIMED, value);
@@ -646,10 +653,22 @@ public final class ParcelDesk {
         return divisor < 1 ? 0 : (int) ((number + divisor - 1) / divisor);
     }
 
+    /** The greatest multiple of a step that a number, from 0 on, reaches. */
+    private static int wholeSteps(int number, int step) {
+        return step < 1 ? 0 : number / step * step;
+    }
+
+    private static void addReason(Table table, int row, int reason) {
+        int reasons = table.cell(row, REASONS);
+        table.put(row, FIRST_REASON + reasons, reason);
+        table.put(row, REASONS, reasons + 1);
+    }
+
     /** Everything that the history keeps. */
     private static final class State {
         final Scale scale = new Scale();
-        final Tariff tariff = new Tariff();
+        final Bands bands = new Bands();
+        final Rules rules = new Rules();
         final Table parcels = new Table(PARCEL_ROOM, PARCEL_WIDTH);
         final Table notes = new Table(NOTE_ROOM, NOTE_WIDTH);
         /** For each note the row that its parcel gets if the note is accepted. */
@@ -657,10 +676,44 @@ public final class ParcelDesk {
 
         void copyFrom(State other) {
             scale.copyFrom(other.scale);
-            tariff.copyFrom(other.tariff);
+            bands.copyFrom(other.bands);
+            rules.copyFrom(other.rules);
             parcels.copyFrom(other.parcels);
             notes.copyFrom(other.notes);
             claims.copyFrom(other.claims);
+        }
+
+        /** Fills in the columns from the dimensional weight on, from those ahead of it. */
+        void price(Table table, int row) {
+            int real = table.cell(row, REAL);
+            int dimensional = dividedUp(volume(table, row) * 1000L, scale.settingOf(DIVISOR));
+            int unit = scale.settingOf(UNIT);
+            table.put(row, DIMENSIONAL, dimensional);
+            table.put(row, BILLED, dividedUp(Math.max(real, dimensional), unit) * unit);
+            table.put(row, REASONS, 0);
+            addReason(table, row, weightReason(real, dimensional));
+            table.put(row, BASE, bands.base(table, row));
+            table.put(row, CHARGE, rules.charge(table, row));
+        }
+
+        private static int weightReason(int real, int dimensional) {
+            if (real == dimensional) {
+                return BOTH_WERE_THE_SAME;
+            }
+            return real > dimensional ? REAL_WAS_GREATER : DIMENSIONAL_WAS_GREATER;
+        }
+
+        /**
+         * The greatest real weight below that of a priced row at which its charge can be another
+         * one, or a number below 1. Between two such weights neither the real nor the billed weight
+         * passes anything that it is compared with, so a search may leap from one to the next.
+         */
+        int nextLower(Table table, int row) {
+            int real = table.cell(row, REAL);
+            int unit = scale.settingOf(UNIT);
+            int byBand = wholeSteps(bands.nextLower(table, row), unit);
+            int byRule = rules.nextLower(real, unit);
+            return byBand < real ? Math.max(byBand, byRule) : byRule;
         }
     }
 
@@ -862,13 +915,12 @@ public final class ParcelDesk {
         }
     }
 
-    /** The bands and extra prices of the zones, and the rules. */
-    private static final class Tariff {
+    /** The bands of prices and the extra prices, by zones. */
+    private static final class Bands {
         private final int[] bandCounts = new int[ZONES];
         private final int[] limits = new int[ZONES * BANDS_OF_ZONE];
         private final int[] prices = new int[ZONES * BANDS_OF_ZONE];
         private final int[] extras = {100, 100, 100, 100};
-        final Table rules = new Table(RULE_ROOM, RULE_WIDTH);
 
         int bandsOf(int zone) {
             return isIndex(zone, bandCounts) ? bandCounts[zone] : 0;
@@ -896,7 +948,7 @@ public final class ParcelDesk {
             }
         }
 
-        /** The index of the first band whose limit is at least this weight, or how many there are. */
+        /** The index of the first band whose limit is at least this weight; behind all, if none. */
         int bandFor(int zone, int weight) {
             int bands = bandsOf(zone);
             for (int i = 0; i < bands; i++) {
@@ -936,17 +988,36 @@ public final class ParcelDesk {
             }
         }
 
-        void addRule(RuleReader read) {
-            int rule = rules.addRow();
-            rules.put(rule, TOKENS, read.count);
-            rules.put(rule, CHANGE, read.change);
-            rules.put(rule, AMOUNT, read.number);
-            for (int i = 0; i < read.count; i++) {
-                rules.put(rule, FIRST_TOKEN + i, read.tokenAt(i));
+        /** The base of a row whose billed weight is known, put down among its reasons. */
+        int base(Table table, int row) {
+            int zone = table.cell(row, ZONE);
+            int billed = table.cell(row, BILLED);
+            int index = bandFor(zone, billed);
+            if (hasBand(zone, index)) {
+                addReason(table, row, BAND_REASON + index);
+                return priceOf(zone, index);
             }
+            addReason(table, row, EXTRA_REASON);
+            return priceOf(zone, index - 1) + begunAbove(zone, billed) * extraOf(zone);
         }
 
-        void copyFrom(Tariff other) {
+        /** The greatest billed weight below the row's at which its base can be another one. */
+        int nextLower(Table table, int row) {
+            int zone = table.cell(row, ZONE);
+            int billed = table.cell(row, BILLED);
+            int index = bandFor(zone, billed);
+            int limitBelow = limitOf(zone, index - 1);
+            if (hasBand(zone, index)) {
+                return limitBelow;
+            }
+            return limitBelow + (begunAbove(zone, billed) - 1) * EXTRA_WEIGHT;
+        }
+
+        private int begunAbove(int zone, int billed) {
+            return dividedUp(billed - limitOf(zone, bandsOf(zone) - 1), EXTRA_WEIGHT);
+        }
+
+        void copyFrom(Bands other) {
             for (int zone = 0; zone < ZONES; zone++) {
                 if (isIndex(zone, bandCounts)) {
                     bandCounts[zone] = other.bandsOf(zone);
@@ -956,7 +1027,6 @@ public final class ParcelDesk {
                 }
                 putExtra(zone, other.extraOf(zone));
             }
-            rules.copyFrom(other.rules);
         }
     }
 
@@ -994,7 +1064,7 @@ public final class ParcelDesk {
             return isIndex(index, tokens) ? tokens[index] : 0;
         }
 
-        /** Whether this character can stand next; behind one that cannot, nothing is read any more. */
+        /** Whether this character can stand next; behind one that cannot, no other is read. */
         boolean accepts(int c) {
             switch (place) {
                 case AT_TERM:
@@ -1083,64 +1153,37 @@ public final class ParcelDesk {
         }
     }
 
-    /** Works out charges with the settings, bands and rules as they are. */
-    private static final class Pricer {
-        private final Scale scale;
-        private final Tariff tariff;
-        /** What the letters of a condition stand for, in the order of LETTERS. */
-        private final int[] facts = new int[LETTERS.length()];
+    /** The rules, as the tokens that their texts were read into. */
+    private static final class Rules {
+        private final Table rows = new Table(RULE_ROOM, RULE_WIDTH);
 
-        Pricer(Scale scale, Tariff tariff) {
-            this.scale = scale;
-            this.tariff = tariff;
+        int count() {
+            return rows.count;
         }
 
-        /** Fills in the columns from the dimensional weight on, from those ahead of it. */
-        void price(Table table, int row) {
-            int real = table.cell(row, REAL);
-            int dimensional = dividedUp(volume(table, row) * 1000L, scale.settingOf(DIVISOR));
-            int unit = scale.settingOf(UNIT);
-            table.put(row, DIMENSIONAL, dimensional);
-            table.put(row, BILLED, dividedUp(Math.max(real, dimensional), unit) * unit);
-            table.put(row, REASONS, 0);
-            addReason(table, row, weightReason(real, dimensional));
-            int base = base(table, row);
-            table.put(row, BASE, base);
-            table.put(row, CHARGE, chargeByRules(table, row, base));
-        }
-
-        private static int weightReason(int real, int dimensional) {
-            if (real == dimensional) {
-                return BOTH_WERE_THE_SAME;
+        void addRule(RuleReader read) {
+            int rule = rows.addRow();
+            rows.put(rule, TOKENS, read.count);
+            rows.put(rule, CHANGE, read.change);
+            rows.put(rule, AMOUNT, read.number);
+            for (int i = 0; i < read.count; i++) {
+                rows.put(rule, FIRST_TOKEN + i, read.tokenAt(i));
             }
-            return real > dimensional ? REAL_WAS_GREATER : DIMENSIONAL_WAS_GREATER;
         }
 
-        private static void addReason(Table table, int row, int reason) {
-            int reasons = table.cell(row, REASONS);
-            table.put(row, FIRST_REASON + reasons, reason);
-            table.put(row, REASONS, reasons + 1);
+        void dropRule() {
+            rows.count = Math.max(rows.count - 1, 0);
         }
 
-        private int base(Table table, int row) {
-            int zone = table.cell(row, ZONE);
-            int billed = table.cell(row, BILLED);
-            int index = tariff.bandFor(zone, billed);
-            if (tariff.hasBand(zone, index)) {
-                addReason(table, row, BAND_REASON + index);
-                return tariff.priceOf(zone, index);
-            }
-            addReason(table, row, EXTRA_REASON);
-            int last = index - 1;
-            int begun = dividedUp(billed - tariff.limitOf(zone, last), 1000);
-            return tariff.priceOf(zone, last) + begun * tariff.extraOf(zone);
+        void copyFrom(Rules other) {
+            rows.copyFrom(other.rows);
         }
 
-        private int chargeByRules(Table table, int row, int base) {
-            readFacts(table, row);
-            int charge = base;
-            for (int rule = 0; rule < tariff.rules.count; rule++) {
-                if (holds(rule)) {
+        /** The charge of a row whose base is known; each rule that holds becomes a reason. */
+        int charge(Table table, int row) {
+            int charge = table.cell(row, BASE);
+            for (int rule = 0; rule < rows.count; rule++) {
+                if (holds(rule, table, row)) {
                     charge = changed(rule, charge);
                     addReason(table, row, RULE_REASON + rule);
                 }
@@ -1148,24 +1191,9 @@ public final class ParcelDesk {
             return charge;
         }
 
-        private void readFacts(Table table, int row) {
-            putFact(0, table.cell(row, BILLED));
-            putFact(1, table.cell(row, REAL));
-            putFact(2, table.cell(row, DIMENSIONAL));
-            putFact(3, girth(table, row));
-            putFact(4, longestSide(table, row));
-            putFact(5, table.cell(row, ZONE));
-        }
-
-        private void putFact(int letter, int value) {
-            if (isIndex(letter, facts)) {
-                facts[letter] = value;
-            }
-        }
-
         private int changed(int rule, int charge) {
-            int change = tariff.rules.cell(rule, CHANGE);
-            long amount = tariff.rules.cell(rule, AMOUNT);
+            int change = rows.cell(rule, CHANGE);
+            long amount = rows.cell(rule, AMOUNT);
             long result = charge * amount / 1000;
             if (change != '*') {
                 result = change == '+' ? charge + amount : charge - amount;
@@ -1177,22 +1205,22 @@ public final class ParcelDesk {
          * Inside parentheses the values outside wait as bits, the innermost one lowest; a text has
          * too few characters for more parentheses than a long has bits.
          */
-        private boolean holds(int rule) {
+        private boolean holds(int rule, Table table, int row) {
             boolean any = false;
             boolean all = true;
             boolean not = false;
             long outerAny = 0;
             long outerAll = 0;
             long outerNot = 0;
-            int count = tariff.rules.cell(rule, TOKENS);
+            int count = rows.cell(rule, TOKENS);
             for (int i = 0; i < count; i++) {
-                int token = tariff.rules.cell(rule, FIRST_TOKEN + i);
+                int token = rows.cell(rule, FIRST_TOKEN + i);
                 if (token == -'~') {
                     not = !not;
                 } else if (token == -'(') {
-                    outerAny = outerAny << 1 | (any ? 1 : 0);
-                    outerAll = outerAll << 1 | (all ? 1 : 0);
-                    outerNot = outerNot << 1 | (not ? 1 : 0);
+                    outerAny = pushed(outerAny, any);
+                    outerAll = pushed(outerAll, all);
+                    outerNot = pushed(outerNot, not);
                     any = false;
                     all = true;
                     not = false;
@@ -1201,29 +1229,92 @@ public final class ParcelDesk {
                     all = true;
                 } else if (token == -')') {
                     boolean inner = any || all;
-                    any = (outerAny & 1) != 0;
-                    all = (outerAll & 1) != 0 && inner != ((outerNot & 1) != 0);
+                    any = isSet(outerAny);
+                    all = isSet(outerAll) && inner != isSet(outerNot);
                     not = false;
                     outerAny >>= 1;
                     outerAll >>= 1;
                     outerNot >>= 1;
                 } else if (token >= 0) {
-                    all = all && compares(token) != not;
+                    all = all && compares(token, table, row) != not;
                     not = false;
                 }
             }
             return any || all;
         }
 
-        private boolean compares(int token) {
-            int number = token % NUMBERS;
-            int relation = token / NUMBERS % RELATION_COUNT;
-            int letter = token / NUMBERS / RELATION_COUNT;
-            int fact = isIndex(letter, facts) ? facts[letter] : 0;
-            if (relation == 1) {
-                return fact == number;
+        private static long pushed(long bits, boolean value) {
+            return bits << 1 | (value ? 1 : 0);
+        }
+
+        private static boolean isSet(long bits) {
+            return (bits & 1) != 0;
+        }
+
+        private static boolean compares(int token, Table table, int row) {
+            int number = numberOf(token);
+            int fact = fact(letterOf(token), table, row);
+            switch (token / NUMBERS % RELATION_COUNT) {
+                case 0:
+                    return fact < number;
+                case 1:
+                    return fact == number;
+                default:
+                    return fact > number;
             }
-            return relation == 0 ? fact < number : fact > number;
+        }
+
+        private static int numberOf(int token) {
+            return token % NUMBERS;
+        }
+
+        private static int letterOf(int token) {
+            return token / NUMBERS / RELATION_COUNT;
+        }
+
+        private static int fact(int letter, Table table, int row) {
+            switch (letter) {
+                case LETTER_W:
+                    return table.cell(row, BILLED);
+                case LETTER_R:
+                    return table.cell(row, REAL);
+                case LETTER_V:
+                    return table.cell(row, DIMENSIONAL);
+                case LETTER_G:
+                    return girth(table, row);
+                case LETTER_L:
+                    return longestSide(table, row);
+                default:
+                    return table.cell(row, ZONE);
+            }
+        }
+
+        /** The greatest real weight below this one at which a comparison can answer otherwise. */
+        int nextLower(int real, int unit) {
+            int next = 0;
+            for (int rule = 0; rule < rows.count; rule++) {
+                int count = rows.cell(rule, TOKENS);
+                for (int i = 0; i < count; i++) {
+                    int token = rows.cell(rule, FIRST_TOKEN + i);
+                    next = Math.max(next, turnBelow(token, real, unit));
+                }
+            }
+            return next;
+        }
+
+        /** A comparison with n can turn from n + 1 to n, and from n to n - 1. */
+        private static int turnBelow(int token, int real, int unit) {
+            int letter = letterOf(token);
+            boolean readsWeight = letter == LETTER_W || letter == LETTER_R;
+            if (token < 0 || !readsWeight) {
+                return 0;
+            }
+            int step = letter == LETTER_W ? unit : 1;
+            int turn = wholeSteps(numberOf(token), step);
+            if (turn >= real) {
+                turn = wholeSteps(numberOf(token) - 1, step);
+            }
+            return turn < real ? turn : 0;
         }
     }
 }
