@@ -116,23 +116,35 @@ public final class PromisesTest {
         return d;
     }
 
-    /** A call that returns an error must leave the fingerprint and the history as they were. */
+    /**
+     * A call that returns an error must leave the fingerprint and the history as they were. An act
+     * that changes something is put ahead of it: if the call had added a state, undo() would not
+     * bring back what was ahead of that act.
+     */
     private static final class Unchanged {
+        private static int marks = 0;
         private final ParcelDesk desk;
-        private final long before;
+        private final long start;
+        private long marked;
 
         Unchanged(ParcelDesk desk) {
             this.desk = desk;
-            desk.set(0, desk.setting(0));
-            this.before = desk.fingerprint();
+            this.start = desk.fingerprint();
+            mark();
+        }
+
+        private void mark() {
+            marks++;
+            desk.setExtra(3, 1000 + marks % 9000);
+            marked = desk.fingerprint();
         }
 
         void check(String call, long got, long want) {
             due(call, got, want);
-            due(call + " changed the desk", desk.fingerprint(), before);
+            due(call + " changed the desk", desk.fingerprint(), marked);
             desk.undo();
-            due(call + " changed the history", desk.fingerprint(), before);
-            desk.set(0, desk.setting(0));
+            due(call + " changed the history", desk.fingerprint(), start);
+            mark();
         }
     }
 
