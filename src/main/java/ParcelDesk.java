@@ -39,7 +39,7 @@ public final class ParcelDesk {
     private static final int HIGHEST_CHARGE = 1000000000;
     private static final int TEXT_ERROR = -100;
 
-    // Columns of a parcel's row: up to the charge they are the numbers that parcel() is asked for.
+    // Columns of a parcel's row: up to the girth they are the numbers that parcel() is asked for.
     private static final int REAL = 0;
     private static final int SIDE_A = 1;
     private static final int SIDE_B = 2;
@@ -49,11 +49,12 @@ public final class ParcelDesk {
     private static final int BILLED = 6;
     private static final int BASE = 7;
     private static final int CHARGE = 8;
-    private static final int REASONS = 9;
-    private static final int FIRST_REASON = 10;
+    private static final int GIRTH = 9;
+    private static final int LONGEST = 10;
+    private static final int REASONS = 11;
+    private static final int FIRST_REASON = 12;
     private static final int PARCEL_WIDTH = FIRST_REASON + 2 + RULE_ROOM;
 
-    private static final int ASK_GIRTH = 9;
     private static final int ASK_OPEN_NOTE = 10;
     private static final int LAST_SCALE_NUMBER = 10;
     private static final int LAST_SUM = 4;
@@ -86,11 +87,7 @@ public final class ParcelDesk {
     private static final int RULE_WIDTH = FIRST_TOKEN + TEXT_ROOM;
 
     private static final String LETTERS = "wrvglz";
-    private static final int LETTER_W = 0;
-    private static final int LETTER_R = 1;
-    private static final int LETTER_V = 2;
-    private static final int LETTER_G = 3;
-    private static final int LETTER_L = 4;
+    private static final int[] LETTER_COLUMNS = {BILLED, REAL, DIMENSIONAL, GIRTH, LONGEST, ZONE};
     private static final String RELATIONS = "<=>";
     private static final int RELATION_COUNT = 3;
     private static final int NUMBERS = 100000;
@@ -309,9 +306,6 @@ public final class ParcelDesk {
         if (!now.parcels.has(parcel) || !isWithin(what, 0, ASK_OPEN_NOTE)) {
             return BAD;
         }
-        if (what == ASK_GIRTH) {
-            return girth(now.parcels, parcel);
-        }
         return what == ASK_OPEN_NOTE ? openNote(parcel) : now.parcels.cell(parcel, what);
     }
 
@@ -510,8 +504,9 @@ public final class ParcelDesk {
     }
 
     private long printParcels(long start) {
-        long print = 31 * start + parcels();
-        for (int p = 0; p < parcels(); p++) {
+        int count = parcels();
+        long print = 31 * start + count;
+        for (int p = 0; p < count; p++) {
             for (int what = 0; what <= ASK_OPEN_NOTE; what++) {
                 print = 31 * print + parcel(p, what);
             }
@@ -524,8 +519,9 @@ public final class ParcelDesk {
     }
 
     private long printNotes(long start) {
-        long print = 31 * start + notes();
-        for (int n = 0; n < notes(); n++) {
+        int count = notes();
+        long print = 31 * start + count;
+        for (int n = 0; n < count; n++) {
             for (int what = 0; what < NOTE_WIDTH; what++) {
                 print = 31 * print + note(n, what);
             }
@@ -629,16 +625,6 @@ public final class ParcelDesk {
         table.put(row, ZONE, zone);
     }
 
-    private static int longestSide(Table table, int row) {
-        int longest = Math.max(table.cell(row, SIDE_A), table.cell(row, SIDE_B));
-        return Math.max(longest, table.cell(row, SIDE_C));
-    }
-
-    private static int girth(Table table, int row) {
-        int sides = table.cell(row, SIDE_A) + table.cell(row, SIDE_B) + table.cell(row, SIDE_C);
-        return 2 * sides - longestSide(table, row);
-    }
-
     /** In cubic centimeters, each begun one of a side whole. */
     private static int volume(Table table, int row) {
         int volume = 1;
@@ -690,10 +676,20 @@ public final class ParcelDesk {
             int unit = scale.settingOf(UNIT);
             table.put(row, DIMENSIONAL, dimensional);
             table.put(row, BILLED, dividedUp(Math.max(real, dimensional), unit) * unit);
+            measure(table, row);
             table.put(row, REASONS, 0);
             addReason(table, row, weightReason(real, dimensional));
             table.put(row, BASE, bands.base(table, row));
             table.put(row, CHARGE, rules.charge(table, row));
+        }
+
+        private static void measure(Table table, int row) {
+            int a = table.cell(row, SIDE_A);
+            int b = table.cell(row, SIDE_B);
+            int c = table.cell(row, SIDE_C);
+            int longest = Math.max(a, Math.max(b, c));
+            table.put(row, LONGEST, longest);
+            table.put(row, GIRTH, longest + 2 * (a + b + c - longest));
         }
 
         private static int weightReason(int real, int dimensional) {
@@ -717,7 +713,7 @@ public final class ParcelDesk {
         }
     }
 
-    /** Rows of numbers up to a fixed room. Every index is tested here and nowhere else. */
+    /** Rows of numbers up to a fixed room; every index into them is tested here. */
     private static final class Table {
         private final int room;
         private final int width;
@@ -804,7 +800,7 @@ public final class ParcelDesk {
         private int third;
 
         int settingOf(int setting) {
-            return isIndex(setting, settings) ? settings[setting] : 0;
+            return setting >= 0 && setting < settings.length ? settings[setting] : 0;
         }
 
         void putSetting(int setting, int value) {
@@ -828,7 +824,10 @@ public final class ParcelDesk {
 
         int grossWeight() {
             int step = settingOf(STEP);
-            return step < 1 ? 0 : Math.floorDiv(2 * aboveZero() + step, 2 * step) * step;
+            if (step < 1) {
+                return 0;
+            }
+            return Math.floorDiv(2 * (rawReading() - zero) + step, 2 * step) * step;
         }
 
         int netWeight() {
@@ -927,7 +926,10 @@ public final class ParcelDesk {
         }
 
         boolean hasBand(int zone, int index) {
-            return index >= 0 && index < bandsOf(zone);
+            if (zone < 0 || zone >= bandCounts.length) {
+                return false;
+            }
+            return index >= 0 && index < bandCounts[zone];
         }
 
         int limitOf(int zone, int index) {
@@ -1252,8 +1254,8 @@ public final class ParcelDesk {
         }
 
         private static boolean compares(int token, Table table, int row) {
-            int number = numberOf(token);
-            int fact = fact(letterOf(token), table, row);
+            int number = token % NUMBERS;
+            int fact = table.cell(row, columnOf(token));
             switch (token / NUMBERS % RELATION_COUNT) {
                 case 0:
                     return fact < number;
@@ -1264,29 +1266,10 @@ public final class ParcelDesk {
             }
         }
 
-        private static int numberOf(int token) {
-            return token % NUMBERS;
-        }
-
-        private static int letterOf(int token) {
-            return token / NUMBERS / RELATION_COUNT;
-        }
-
-        private static int fact(int letter, Table table, int row) {
-            switch (letter) {
-                case LETTER_W:
-                    return table.cell(row, BILLED);
-                case LETTER_R:
-                    return table.cell(row, REAL);
-                case LETTER_V:
-                    return table.cell(row, DIMENSIONAL);
-                case LETTER_G:
-                    return girth(table, row);
-                case LETTER_L:
-                    return longestSide(table, row);
-                default:
-                    return table.cell(row, ZONE);
-            }
+        /** The column that a comparison reads; NONE for a token that is no comparison. */
+        private static int columnOf(int token) {
+            int letter = token / NUMBERS / RELATION_COUNT;
+            return token >= 0 && isIndex(letter, LETTER_COLUMNS) ? LETTER_COLUMNS[letter] : NONE;
         }
 
         /** The greatest real weight below this one at which a comparison can answer otherwise. */
@@ -1304,15 +1287,15 @@ public final class ParcelDesk {
 
         /** A comparison with n can turn from n + 1 to n, and from n to n - 1. */
         private static int turnBelow(int token, int real, int unit) {
-            int letter = letterOf(token);
-            boolean readsWeight = letter == LETTER_W || letter == LETTER_R;
-            if (token < 0 || !readsWeight) {
+            int column = columnOf(token);
+            if (column != BILLED && column != REAL) {
                 return 0;
             }
-            int step = letter == LETTER_W ? unit : 1;
-            int turn = wholeSteps(numberOf(token), step);
+            int step = column == BILLED ? unit : 1;
+            int number = token % NUMBERS;
+            int turn = wholeSteps(number, step);
             if (turn >= real) {
-                turn = wholeSteps(numberOf(token) - 1, step);
+                turn = wholeSteps(number - 1, step);
             }
             return turn < real ? turn : 0;
         }

@@ -23,6 +23,7 @@ public final class PromisesTest {
         promise3();
         promise4();
         promise5();
+        promise5Time();
         promise5Tracking();
         promise6();
         promise7();
@@ -305,7 +306,21 @@ public final class PromisesTest {
         u.check("5: MAX", d.tick(HIGH), BAD);
     }
 
-    /** Beyond the 512th call of an object answers are free, but the limit of the time is told. */
+    /** No 512 calls get so far: nothing is promised here, but the limit is in the document. */
+    private static void promise5Time() {
+        ParcelDesk d = new ParcelDesk();
+        for (int i = 0; i < 999; i++) {
+            d.tick(100);
+        }
+        d.tick(99);
+        Unchanged u = new Unchanged(d);
+        u.check("5: beyond 100000", d.tick(2), STATE);
+        u.check("5: BAD ahead of STATE", d.tick(101), BAD);
+        due("5: up to 100000", d.tick(1), 0);
+        due("5: time", d.scale(0), 100000);
+        due("5: beyond 100000", d.tick(1), STATE);
+    }
+
     private static void promise5Tracking() {
         ParcelDesk d = new ParcelDesk();
         d.load(5);
@@ -553,6 +568,7 @@ public final class PromisesTest {
         due("10: the middle one", d.unband(1, 1), 2);
         due("10: the rest moves", d.bandAt(1, 1, 0), 30);
         due("10: the rest moves", d.bandAt(1, 1, 1), 3);
+        due("10: those ahead stay", d.bandAt(1, 0, 0), 10);
         due("10: one less", d.bandAt(1, 2, 0), BAD);
         due("10: the first", d.unband(1, 0), 1);
         due("10: the last", d.unband(1, 0), 0);
@@ -771,6 +787,12 @@ public final class PromisesTest {
         holds("(z=2)|z=1", true);
         holds("(z=1)|z=1&(z=2)", false);
         holds("(((((((((((((((((((((((((z=2)))))))))))))))))))))))))", true);
+        holds("z=2|((z=1))", true);
+        holds("z=1&((z=2))", false);
+        holds("~((z=1))", true);
+        holds("~((z=1)|(z=2))", false);
+        holds("~w<00000", true);
+        holds("w=0|w<0", false);
         holds("~(~(~(~(~(~(~(~(~(~(~(~(~(z=1)))))))))))))", true);
     }
 
@@ -1264,12 +1286,19 @@ public final class PromisesTest {
         due("28: real weights", d.sum(2), 900 + 1010 + 1001 + 1001);
         due("28: billed weights", d.sum(3), 900 + 1100 + 1100 + 1100);
         due("28: by the dimensional weight", d.sum(4), 1);
+        d.undo();
+        due("28: refunds undone", d.sum(1), 0);
+        d.settle(2, true);
+        d.dispute(0, 0, 1);
+        d.settle(3, true);
+        due("28: the first one, too", d.sum(4), 1);
+        d.dispute(0, 2, 200);
+        d.settle(4, true);
+        due("28: the first one, too", d.sum(4), 2);
         due("28: -1", d.sum(-1), BAD);
         due("28: 5", d.sum(5), BAD);
         due("28: MIN", d.sum(LOW), BAD);
         due("28: MAX", d.sum(HIGH), BAD);
-        d.undo();
-        due("28: refunds undone", d.sum(1), 0);
 
         ParcelDesk rich = fine();
         for (int i = 0; i < 8; i++) {
@@ -1333,11 +1362,32 @@ public final class PromisesTest {
         due("29: the dimensional weight is 3000", extra.lighter(0), NONE);
         due("29: BAD ahead of STATE", extra.lighter(1), BAD);
         due("29: no act", extra.undo(), 3);
+        leaps();
         ParcelDesk one = fine();
         one.set(5, 0);
         rule(one, "r<1?-950");
         take(one, 1, 10, 10, 10, 0);
         due("29: a gram", one.lighter(0), NONE);
+    }
+
+    /** Turns of a condition or of the base that lie just at the weight do not end the search. */
+    private static void leaps() {
+        ParcelDesk d = fine();
+        take(d, 1500, 10, 10, 10, 0);
+        rule(d, "r<1501?+1");
+        rule(d, "r<1000?-1");
+        due("29: beyond a turn at the weight", d.lighter(0), 501);
+        d.unrule();
+        d.unrule();
+        d.set(6, 1000);
+        d.dispute(0, 1, 2000);
+        d.settle(0, true);
+        d.dispute(0, 2, 90);
+        d.settle(1, true);
+        due("29: the dimensional weight", d.parcel(0, 5), 1800);
+        d.band(0, 1500, 900);
+        rule(d, "~r>1400?-1");
+        due("29: beyond a band at the weight", d.lighter(0), 100);
     }
 
     private static void promise30() {
@@ -1402,7 +1452,18 @@ public final class PromisesTest {
         d.unband(2, 0);
         d.unband(3, 0);
         due("31: no bands", d.cheapest(0), NONE);
-        due("31: BAD ahead of NONE", d.cheapest(1), BAD);
+        d.undo();
+        d.band(1, 1000, 50);
+        rule(d, "l>10&z=1?+2000");
+        d.load(800);
+        d.tick(3);
+        d.take(11, 1, 1, 1);
+        due("31: of the first parcel", d.cheapest(0), 1);
+        due("31: of the second parcel", d.cheapest(1), 3);
+        d.unrule();
+        d.unband(1, 0);
+        d.unband(3, 0);
+        due("31: BAD ahead of NONE", d.cheapest(2), BAD);
         due("31: the parcel stays", d.parcel(0, 4), 0);
         due("31: no act", d.undo(), 3);
         due("31: no act", d.cheapest(0), 3);
