@@ -1269,7 +1269,10 @@ public final class ParcelDesk {
         /** The column that a comparison reads; NONE for a token that is no comparison. */
         private static int columnOf(int token) {
             int letter = token / NUMBERS / RELATION_COUNT;
-            return token >= 0 && isIndex(letter, LETTER_COLUMNS) ? LETTER_COLUMNS[letter] : NONE;
+            if (token < 0 || letter >= LETTER_COLUMNS.length) {
+                return NONE;
+            }
+            return LETTER_COLUMNS[letter];
         }
 
         /** The greatest real weight below this one at which a comparison can answer otherwise. */
