@@ -465,7 +465,7 @@ public final class ParcelDesk {
         }
         pastCount--;
         pastNext = pastNext > 0 ? pastNext - 1 : HISTORY_ROOM - 1;
-        if (pastNext < past.length && past[pastNext] != null) {
+        if (pastNext >= 0 && pastNext < past.length && past[pastNext] != null) {
             now.copyFrom(past[pastNext]);
         }
         return pastCount;
