@@ -1,5 +1,10 @@
+import java.lang.reflect.Field;
+import java.lang.reflect.Method;
+import java.lang.reflect.Modifier;
 import java.nio.file.Files;
 import java.nio.file.Path;
+import java.util.ArrayList;
+import java.util.List;
 import java.util.regex.Matcher;
 import java.util.regex.Pattern;
 
@@ -29,6 +34,7 @@ public final class LanguageTest {
             none(code, "\n {4}private (static )?\\w+ " + face + "\\(");
         }
         longMethods(source);
+        sizes();
         System.out.println(wrong == 0 ? "nothing is against the language" : wrong + " are against it");
         if (wrong != 0) {
             System.exit(1);
@@ -50,6 +56,35 @@ public final class LanguageTest {
                 wrong++;
                 System.out.println("too long: " + m.group(0).trim().split("\n")[0]);
             }
+        }
+    }
+
+    private static void sizes() {
+        List<Class<?>> classes = new ArrayList<>(List.of(ParcelDesk.class.getDeclaredClasses()));
+        classes.add(ParcelDesk.class);
+        atMost("classes", classes.size(), 12);
+        for (Class<?> c : classes) {
+            int fields = 0;
+            for (Field f : c.getDeclaredFields()) {
+                if (!Modifier.isStatic(f.getModifiers())) {
+                    fields++;
+                } else {
+                    atMost("static fields that can change", Modifier.isFinal(f.getModifiers()) ? 0 : 1, 0);
+                }
+            }
+            atMost("fields of " + c.getSimpleName(), fields, 20);
+            for (Method m : c.getDeclaredMethods()) {
+                atMost("parameters of " + m.getName(), m.getParameterCount(), 7);
+            }
+            boolean isShut = c == ParcelDesk.class || (c.getModifiers() & Modifier.PUBLIC) == 0;
+            atMost("classes inside that are open", isShut ? 0 : 1, 0);
+        }
+    }
+
+    private static void atMost(String what, int count, int most) {
+        if (count > most) {
+            wrong++;
+            System.out.println("too many " + what + ": " + count);
         }
     }
 }
